@@ -775,12 +775,12 @@ public final class BatteryCaches {
         int reason = REASON_NONE;
         int cause = 0;
 
-        void forget() {
-            start = 0;
+        void beginText() {
             next = 0;
             reason = REASON_NONE;
         }
 
+        /** To be called as long as there is no reason: the first fault is the text's. */
         void readNext(Text text) {
             start = next;
             if (!hasForm(text)) {
@@ -789,8 +789,6 @@ public final class BatteryCaches {
             } else if (!isInRange()) {
                 reason = REASON_RANGE;
                 cause = number;
-            } else {
-                reason = REASON_NONE;
             }
         }
 
@@ -869,7 +867,7 @@ public final class BatteryCaches {
         /** Leaves the order's reason at REASON_NONE if the text has no fault. */
         void run(Text text, State now) {
             State.copy(now, trial);
-            order.forget();
+            order.beginText();
             done = 0;
             for (int i = 0; i < MOST_CHARACTERS && order.next < text.length; i++) {
                 order.readNext(text);

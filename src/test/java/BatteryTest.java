@@ -179,6 +179,8 @@ final class BatteryTest {
         Check.due("cut below the fixed cost", x.cut(), 1);
         Check.due("lost in all", x.count(5), 3);
         Check.due("nothing is left", x.battery(0), 0);
+        x.undo();
+        Check.due("lost, undone", x.count(5), 2);
     }
 
     private static void promise8InCycle() {

@@ -31,6 +31,12 @@ final class LookTest {
             Check.due("lineOf(3, " + what + ")", x.lineOf(3, what), BatteryCaches.NOT_FOUND);
         }
         Check.invalid("lineOf", x.lineOf(-1, 0), x.lineOf(8, 0), x.lineOf(0, -1), x.lineOf(0, 5), x.lineOf(3, 5));
+        x.read(20);
+        Check.due("lines ahead of line 1", x.lineOf(1, 4), 2);
+        Check.due("lines ahead of line 2", x.lineOf(2, 4), 0);
+        x.read(63);
+        Check.due("lines ahead of line 2, hit last", x.lineOf(2, 4), 2);
+        Check.due("line 0 is ahead of line 1", x.lineOf(1, 4), 1);
         x.cut();
         Check.due("lineOf(0, 0) behind a cut", x.lineOf(0, 0), 0);
         Check.due("lineOf(0, 3) behind a cut", x.lineOf(0, 3), BatteryCaches.NOT_FOUND);

@@ -35,6 +35,11 @@ final class TextTest {
         Check.due("no fault", x.fault(0), BatteryCaches.NOT_FOUND);
         Check.due("type anew", x.type('c'), 1);
         Check.due("nothing is left of it", x.fault(2), 1);
+        Check.retype(x, "c;");
+        Check.retype(x, "c");
+        Check.due("nor behind the end", x.fault(2), 1);
+        x.clearText();
+        Check.due("nor of its fault", x.fault(0), BatteryCaches.NOT_FOUND);
         Check.due("it is no change", x.count(9), 0);
     }
 

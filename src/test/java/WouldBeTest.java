@@ -8,6 +8,7 @@ final class WouldBeTest {
         promise17();
         promise19();
         promise19Restores();
+        promise19RestoresAll();
         Check.end("WouldBeTest");
     }
 
@@ -182,5 +183,73 @@ final class WouldBeTest {
         Check.due("a new change is recorded", x.count(9), 3);
         x.undo();
         Check.due("and undone", x.lineOf(0, 3), 1);
+        x.read(5);
+        Check.due("its turn is given again", x.lineOf(0, 3), 3);
+    }
+
+    /** All that can be asked of it, but for the history and the text. */
+    private static String seen(BatteryCaches x) {
+        StringBuilder seen = new StringBuilder();
+        for (int line = 0; line < 8; line++) {
+            for (int what = 0; what < 5; what++) {
+                seen.append(x.lineOf(line, what)).append(' ');
+            }
+        }
+        for (int place = 0; place < 64; place++) {
+            for (int what = 0; what < 4; what++) {
+                seen.append(x.placeOf(place, what)).append(' ');
+            }
+        }
+        for (int what = 0; what < 6; what++) {
+            seen.append(x.battery(what)).append(' ');
+        }
+        for (int what = 0; what < 24; what++) {
+            seen.append(what == 9 || what == 10 ? 0 : x.count(what)).append(' ');
+        }
+        return seen.toString();
+    }
+
+    private static void promise19RestoresAll() {
+        BatteryCaches x = dirty(8);
+        for (int change = 0; change < 18; change++) {
+            String before = seen(x);
+            makeChange(x, change);
+            x.undo();
+            Check.dueText("what is seen behind change " + change + " and undo", seen(x), before);
+            makeChange(x, change);
+            Check.due("change " + change + " changes something", seen(x).equals(before) ? 0 : 1, 1);
+            String behind = seen(x);
+            x.read(0);
+            x.tick(1);
+            x.undo();
+            x.undo();
+            Check.dueText("what is seen behind change " + change + " and two undos", seen(x), behind);
+        }
+    }
+
+    private static void makeChange(BatteryCaches x, int change) {
+        switch (change) {
+            case 0 -> x.read(7);
+            case 1 -> x.read(40);
+            case 2 -> x.write(7, 70);
+            case 3 -> x.write(50, 51);
+            case 4 -> x.flush(3);
+            case 5 -> x.load(650);
+            case 6 -> x.write(51, 52);
+            case 7 -> x.set(0, 300);
+            case 8 -> x.set(1, 99);
+            case 9 -> x.set(2, 19);
+            case 10 -> x.set(3, 199);
+            case 11 -> x.tick(3);
+            case 12 -> x.cut();
+            case 13 -> x.learn();
+            case 14 -> x.tick(3);
+            case 15 -> x.tick(70);
+            case 16 -> {
+                Check.retype(x, "w1=1;w2=2;r3;g;t2;");
+                x.play();
+            }
+            default -> x.cut();
+        }
     }
 }
