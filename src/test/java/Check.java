@@ -1,15 +1,24 @@
+import java.util.StringJoiner;
+
 /** What the tests share: they compare answers, count the wrong ones and end with code 1 if there was one. */
 final class Check {
     private static int checked = 0;
     private static int wrong = 0;
+    private static String sentence = "";
 
     private Check() {
+    }
+
+    /** Names the sentence of the document that the answers below stand for, until the next one. */
+    static void sentence(String words) {
+        sentence = words;
     }
 
     static void due(String call, long got, long want) {
         checked++;
         if (got != want) {
             wrong++;
+            tellSentence();
             System.out.println(call + " answered " + got + ", due is " + want);
         }
     }
@@ -18,7 +27,14 @@ final class Check {
         checked++;
         if (!got.equals(want)) {
             wrong++;
+            tellSentence();
             System.out.println(what + " is\n" + got + "\ndue is\n" + want);
+        }
+    }
+
+    private static void tellSentence() {
+        if (!sentence.isEmpty()) {
+            System.out.println("the document: " + sentence);
         }
     }
 
@@ -27,6 +43,49 @@ final class Check {
         for (int i = 0; i < answers.length; i++) {
             due(call + ", wrong input " + i, answers[i], BatteryCaches.INVALID_ARGUMENT);
         }
+    }
+
+    /** So many dirty lines: line k has the place k with the value 10 + k and the turn k + 1. */
+    static BatteryCaches dirty(int lines) {
+        BatteryCaches cache = new BatteryCaches();
+        for (int line = 0; line < lines; line++) {
+            cache.write(line, 10 + line);
+        }
+        return cache;
+    }
+
+    /** Brings the charge down to this one, from 1000. */
+    static void discharge(BatteryCaches cache, int charge) {
+        int away = 1000 - charge;
+        if (away > 999) {
+            cache.load(999);
+            away -= 999;
+        }
+        if (away > 0) {
+            cache.load(away);
+        }
+    }
+
+    /** All that an undo restores, in some 330 calls: no more than one time for an object of 512. */
+    static String seen(BatteryCaches cache) {
+        StringJoiner seen = new StringJoiner(" ");
+        for (int line = 0; line < 8; line++) {
+            for (int what = 0; what < 5; what++) {
+                seen.add("" + cache.lineOf(line, what));
+            }
+        }
+        for (int place = 0; place < 64; place++) {
+            for (int what = 0; what < 4; what++) {
+                seen.add("" + cache.placeOf(place, what));
+            }
+        }
+        for (int what = 0; what < 6; what++) {
+            seen.add("" + cache.battery(what));
+        }
+        for (int what = 0; what < 24; what++) {
+            seen.add("" + (what == 9 || what == 10 ? 0 : cache.count(what)));
+        }
+        return seen.toString();
     }
 
     static BatteryCaches typed(String text) {

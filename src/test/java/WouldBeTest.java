@@ -12,16 +12,8 @@ final class WouldBeTest {
         Check.end("WouldBeTest");
     }
 
-    private static BatteryCaches dirty(int number) {
-        BatteryCaches x = new BatteryCaches();
-        for (int place = 0; place < number; place++) {
-            x.write(place, place);
-        }
-        return x;
-    }
-
     private static void promise14() {
-        BatteryCaches x = dirty(3);
+        BatteryCaches x = Check.dirty(3);
         int[][] due = {{1, 0}, {600, 0}, {601, 1}, {700, 1}, {701, 2}, {801, 3}, {999, 3}};
         for (int[] pair : due) {
             Check.due("wouldFlush(" + pair[0] + ")", x.wouldFlush(pair[0]), pair[1]);
@@ -40,9 +32,9 @@ final class WouldBeTest {
 
     private static void promise15() {
         Check.due("critical of none", new BatteryCaches().critical(), BatteryCaches.NOT_FOUND);
-        Check.due("critical of one", dirty(1).critical(), 801);
-        Check.due("critical of eight", dirty(8).critical(), 101);
-        BatteryCaches x = dirty(1);
+        Check.due("critical of one", Check.dirty(1).critical(), 801);
+        Check.due("critical of eight", Check.dirty(8).critical(), 101);
+        BatteryCaches x = Check.dirty(1);
         x.set(0, 1);
         x.set(1, 0);
         Check.due("a load of 1000 is no load", x.critical(), BatteryCaches.NOT_FOUND);
@@ -187,43 +179,28 @@ final class WouldBeTest {
         Check.due("its turn is given again", x.lineOf(0, 3), 3);
     }
 
-    /** All that can be asked of it, but for the history and the text. */
-    private static String seen(BatteryCaches x) {
-        StringBuilder seen = new StringBuilder();
-        for (int line = 0; line < 8; line++) {
-            for (int what = 0; what < 5; what++) {
-                seen.append(x.lineOf(line, what)).append(' ');
-            }
+    private static BatteryCaches behind(int changes) {
+        BatteryCaches x = Check.dirty(8);
+        for (int change = 0; change < changes; change++) {
+            makeChange(x, change);
         }
-        for (int place = 0; place < 64; place++) {
-            for (int what = 0; what < 4; what++) {
-                seen.append(x.placeOf(place, what)).append(' ');
-            }
-        }
-        for (int what = 0; what < 6; what++) {
-            seen.append(x.battery(what)).append(' ');
-        }
-        for (int what = 0; what < 24; what++) {
-            seen.append(what == 9 || what == 10 ? 0 : x.count(what)).append(' ');
-        }
-        return seen.toString();
+        return x;
     }
 
     private static void promise19RestoresAll() {
-        BatteryCaches x = dirty(8);
         for (int change = 0; change < 18; change++) {
-            String before = seen(x);
-            makeChange(x, change);
+            String before = Check.seen(behind(change));
+            String after = Check.seen(behind(change + 1));
+            Check.due("change " + change + " changes something", before.equals(after) ? 0 : 1, 1);
+            BatteryCaches x = behind(change + 1);
             x.undo();
-            Check.dueText("what is seen behind change " + change + " and undo", seen(x), before);
-            makeChange(x, change);
-            Check.due("change " + change + " changes something", seen(x).equals(before) ? 0 : 1, 1);
-            String behind = seen(x);
-            x.read(0);
-            x.tick(1);
-            x.undo();
-            x.undo();
-            Check.dueText("what is seen behind change " + change + " and two undos", seen(x), behind);
+            Check.dueText("what is seen behind change " + change + " and undo", Check.seen(x), before);
+            BatteryCaches y = behind(change + 1);
+            y.read(0);
+            y.tick(1);
+            y.undo();
+            y.undo();
+            Check.dueText("what is seen behind change " + change + " and two undos", Check.seen(y), after);
         }
     }
 
