@@ -83,7 +83,7 @@ final class EdgesOfLinesTest {
     private static void noPlaceInTwoLines() {
         Check.sentence("No place is in two lines.");
         BatteryCaches x = new BatteryCaches();
-        for (int i = 0; i < 60; i++) {
+        for (int i = 0; i < 50; i++) {
             int place = i * 7 % 11;
             if (i % 3 == 0) {
                 x.read(place);
