@@ -8,9 +8,10 @@ import java.util.ArrayList;
 import java.util.Collections;
 import java.util.List;
 import java.util.StringJoiner;
+import java.util.regex.Matcher;
 import java.util.regex.Pattern;
 
-/** The public face to the letter, and the rules of LANGUAGE.md that can be seen from outside. */
+/** The public face to the letter, and arguments far out of range. */
 final class FaceTest {
     private static final String FACE = String.join("\n",
             "INVALID_ARGUMENT = -1000001", "LIMIT_REACHED = -1000003",
@@ -19,16 +20,17 @@ final class FaceTest {
             "flush(int)", "learn()", "lineOf(int,int)", "lines(int)", "load(int)", "pair(int)",
             "placeOf(int,int)", "play()", "read(int)", "set(int,int)", "tick(int)",
             "ticksUntil(int)", "type(int)", "undo()", "wouldFlush(int)", "write(int,int)");
-    private static final String[] FORBIDDEN = {
-        "\\bthrow\\b", "\\btry\\b", "\\bcatch\\b", "\\bsynchronized\\b", "\\bassert\\b",
-        "\\bimport\\b", "\\bpackage\\b", "->", "::", "\\bSystem\\.(?!arraycopy)", "\\bThread\\b",
-        "\\bObject\\b", "\\binstanceof\\b", "\\bnull\\b(?! \\|\\|| *\\))"
-    };
+    private static final String HEADINGS = String.join("\n",
+            "---- reads and writes", "read", "write", "flush",
+            "---- time, battery", "tick", "load", "learn", "cut", "set",
+            "---- what there is", "lineOf", "placeOf", "battery", "lines",
+            "---- what would be", "wouldFlush", "critical", "ticksUntil", "pair", "count", "undo",
+            "---- texts", "type", "clearText", "fault", "play");
 
     public static void main(String[] args) throws Exception {
         face();
         constructor();
-        forbiddenWords();
+        headings();
         callsWithExtremes();
         Check.end("FaceTest");
     }
@@ -63,18 +65,16 @@ final class FaceTest {
         Check.due("its parameters", constructors[0].getParameterCount(), 0);
         Check.due("it is public", constructors[0].getModifiers(), Modifier.PUBLIC);
         Check.due("the class is public and final", BatteryCaches.class.getModifiers(), Modifier.PUBLIC | Modifier.FINAL);
-        for (Class<?> inside : BatteryCaches.class.getDeclaredClasses()) {
-            Check.due(inside.getName() + " is static", inside.getModifiers() & Modifier.STATIC, Modifier.STATIC);
-            Check.due(inside.getName() + " is not public", inside.getModifiers() & Modifier.PUBLIC, 0);
-        }
     }
 
-    private static void forbiddenWords() throws Exception {
+    private static void headings() throws Exception {
         String source = Files.readString(Path.of("src/main/java/BatteryCaches.java"));
-        String code = source.replaceAll("//.*", "").replaceAll("(?s)/\\*.*?\\*/", "");
-        for (String word : FORBIDDEN) {
-            Check.due("'" + word + "' in the class", Pattern.compile(word).matcher(code).find() ? 1 : 0, 0);
+        Matcher matcher = Pattern.compile("// (---- .*)|public int (\\w+)\\(").matcher(source);
+        StringJoiner found = new StringJoiner("\n");
+        while (matcher.find()) {
+            found.add(matcher.group(1) != null ? matcher.group(1) : matcher.group(2));
         }
+        Check.dueText("what is said ahead of the calls", found.toString(), HEADINGS);
     }
 
     /** No argument may make the machine throw, and none that is out of every range may change anything. */
